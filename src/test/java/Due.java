@@ -28,7 +28,7 @@ final class Due {
             for (int i = n - 1; i >= 0; i--) {
                 eight = eight << 8 | text.charAt(from + i) & 255;
             }
-            is("feed of \"" + text + "\" at " + from, x.feed(eight, n), x.many(5) == from + n ? from + n : -4);
+            is("feed of \"" + text + "\" at " + from, x.feed(eight, n), from + n);
         }
     }
 
