@@ -597,7 +597,10 @@ public final class TonightCovers {
     }
 
     private static int heldTo(int v, int most) {
-        return Math.max(0, Math.min(v, most));
+        if (v < 0) {
+            return 0;
+        }
+        return v > most ? most : v;
     }
 
     /** A company: LAWS, PARTS, PLAYERS, how far the NIGHTS are, and z; and THE BILL that was made of it latest. */
@@ -790,11 +793,13 @@ public final class TonightCovers {
         }
 
         private void learnAndForget(int player) {
+            int played = role[player];
             int learnt = learns(player);
             int forgotten = forgets(player);
+            int first = player * PARTS;
             for (int part = 0; part < PARTS; part++) {
-                int change = part == role[player] ? learnt : -forgotten;
-                learnTo(player, part, knowing(player, part) + change);
+                int change = part == played ? learnt : -forgotten;
+                knows[first + part] = heldTo(knows[first + part] + change, KNOWS_MOST);
             }
         }
 
@@ -985,7 +990,8 @@ public final class TonightCovers {
 
         int bestLearner(int part, int n) {
             int best = NONE;
-            int most = takenBehind(n);
+            tried.copyFrom(now);
+            int most = takeFor(n);
             for (int player = 0; player < now.players; player++) {
                 tried.copyFrom(now);
                 tried.learnTo(player, part, KNOWS_MOST);
