@@ -216,9 +216,7 @@ public final class TonightCovers {
     }
 
     public int state(int what) {
-        if (what == 2 || what == 3 || what == 5) {
-            now.makeBill();
-        }
+        now.makeBill();
         switch (what) {
             case 0:
                 return now.nightsPlayed;

@@ -21,6 +21,8 @@ final class KeepTest {
         for (int what = 0; what < 7; what++) {
             Due.is("many(" + what + ")", x.many(what), want[what]);
         }
+        TonightCovers y = Due.told("player of 4;player of 5;player of 5;", 3);
+        Due.is("parts that are somebody's OWN", y.many(3), 2);
         Due.is("many(7)", x.many(7), TonightCovers.BAD);
         Due.is("many(-1)", x.many(-1), TonightCovers.BAD);
     }

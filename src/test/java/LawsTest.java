@@ -86,5 +86,8 @@ final class LawsTest {
         Due.is("whose own is 0", x.partOf(0, 2), 0);
         Due.is("the second one takes the part of the first", x.sick(1, 1), 0);
         Due.is("who plays 2 then", x.partOf(2, 1), 1);
+        TonightCovers y = Due.told("page of 3;".repeat(8), 8);
+        Due.is("whose own is 3, of all", y.partOf(3, 2), 255);
+        Due.is("whose own is 0, of all", y.partOf(0, 2), 0);
     }
 }

@@ -152,6 +152,8 @@ final class NightsTest {
         Due.is("earned by more, not held", x.earned(3), 143 * show);
         Due.is("nights(1), held", x.nights(1), 999999);
         Due.is("TAKINGS", x.state(1), 999999);
+        Due.is("all eight play their own", x.state(5), 0);
+        Due.is("and nothing is CUT", x.state(3), 0);
         Due.is("night() at the most", x.night(), show);
         Due.is("TAKINGS", x.state(1), 999999);
         Due.is("earned by one more, not held", x.earned(1), 999999 + 9 * (99 * 8 - (x.state(4) == 0 ? 0 : 99)));
@@ -215,7 +217,23 @@ final class NightsTest {
         Due.is("spoilt(0)", x.spoilt(0), TonightCovers.BAD);
         Due.is("spoilt(31)", x.spoilt(31), TonightCovers.BAD);
         Due.is("spoilt(-1)", x.spoilt(-1), TonightCovers.BAD);
+        spoiltOneByOne();
         Due.is("spoilt of nobody", new TonightCovers().spoilt(1), 0);
+    }
+
+    private static void spoiltOneByOne() {
+        TonightCovers x = Due.told("player of 0; throat 99;", 1);
+        int z = 1;
+        int count = 0;
+        for (int n = 1; n <= 30; n++) {
+            z = z * 1103515245 + 12345;
+            z = z * 1103515245 + 12345;
+            if ((z >>> 16) % 100 < 99) {
+                z = z * 1103515245 + 12345;
+                count += (z >>> 16) % 10 > 0 ? 1 : 0;
+            }
+            Due.is("spoilt(" + n + ")", x.spoilt(n), count);
+        }
     }
 
     private static void states() {
@@ -231,6 +249,15 @@ final class NightsTest {
         Due.is("NIGHT", x.state(0), 1);
         Due.is("TAKINGS", x.state(1), 270);
         Due.is("SHOW of now", x.state(2), 3 * (22 + 72));
+        x.sick(2, 1);
+        Due.is("parts that are CUT now", x.state(3), 0b11111100);
+        x.sick(0, 1);
+        Due.is("and now", x.state(3), 0b11111101);
+        Due.is("MOVED now", x.state(5), 0);
+        x.sick(0, 0);
+        Due.is("MOVED and now", x.state(5), 1);
+        x.sick(1, 1);
+        Due.is("SHOW without one more", x.state(2), 3 * 22);
         Due.is("state(6)", x.state(6), TonightCovers.BAD);
         Due.is("state(-1)", x.state(-1), TonightCovers.BAD);
     }

@@ -39,6 +39,9 @@ final class RowsTest {
         Due.is("what it KNOWS of its OWN", y.row(0, 1), 20);
         Due.is("SHOW", y.row(0, 2), 39);
         Due.is("ten", y.many(4), 10);
+        Due.is("the tenth", y.row(9, 2), 3 * (13 + 9 * 4));
+        Due.is("prove(0, 1)", y.prove(0, 1), 1);
+        rows(y, new int[][] {{0, 20, 39}});
     }
 
     private static void refusedProofs() {

@@ -21,10 +21,12 @@ final class SheetsTest {
             Due.is("all 0", x.item(sheet, sheet, 39), 0);
             Due.is("no more", x.item(sheet, sheet, 40), -12);
         }
+        x.put(2, 0, 9);
         x.put(2, 3, 9);
         x.put(2, 39, 9);
         Due.is("made anew", x.sheet(2, 2, 4), 1);
         Due.is("all 0 again", x.item(2, 2, 3), 0);
+        Due.is("the first one, too", x.item(2, 2, 0), 0);
         Due.is("of four", x.item(2, 2, 4), -12);
         Due.is("longer again", x.sheet(2, 3, 40), 1);
         Due.is("all 0 there, too", x.item(2, 3, 39), 0);
@@ -113,6 +115,13 @@ final class SheetsTest {
         Due.is("not the others", x.knows(3, 7), 7);
         Due.is("none, behind the last item", x.minds(2, 5, 3, 0), 0);
         Due.is("nothing changes", x.knows(3, 7), 7);
+        TonightCovers y = Due.told("page of 3;".repeat(8), 8);
+        y.sheet(0, 0, 40);
+        y.put(0, 39, 8);
+        Due.is("of all eight", y.minds(0, 32, 0, 8), 8);
+        Due.is("KNOWS of the first one", y.knows(0, 3), 0);
+        Due.is("KNOWS of the last one", y.knows(7, 3), 8);
+        Due.is("n of nine", y.minds(0, 0, 0, 9), TonightCovers.BAD);
     }
 
     private static void refusedMinds() {
@@ -124,6 +133,7 @@ final class SheetsTest {
         Due.is("no such one", x.minds(0, 0, 2, 0), TonightCovers.BAD);
         Due.is("no one below 0", x.minds(0, 0, -1, 1), TonightCovers.BAD);
         Due.is("n below 0", x.minds(0, 0, 0, -1), TonightCovers.BAD);
+        Due.is("n far below 0", x.minds(0, 0, 0, -9), TonightCovers.BAD);
         Due.is("n above 8", x.minds(0, 0, 0, 9), TonightCovers.BAD);
         Due.is("n beyond the last one", x.minds(0, 0, 1, 2), TonightCovers.BAD);
         Due.is("BAD is named before -11", x.minds(2, 0, 1, 2), TonightCovers.BAD);

@@ -15,6 +15,7 @@ final class TextTest {
         fullTape();
         whatIsTold();
         allByItAlone();
+        nothingOfTheFormerOnes();
         refusedChangesNothing();
         Due.end();
     }
@@ -123,6 +124,9 @@ final class TextTest {
         answers("help 5;\u00e9", -107);
         answers("help 5;\u0000", -107);
         answers("h", -100);
+        answers("helpa 5;", -100);
+        answers("helpz 5;", -100);
+        answers("help 5a;", -106);
     }
 
     private static void theNinth() {
@@ -171,6 +175,7 @@ final class TextTest {
         x.sheet(1, 0, 3);
         x.shelf(2, 0, 1);
         x.act(2, 0, 0);
+        x.seed(78);
         Due.feed(x, "player of 0;player of 4;");
         Due.is("company()", x.company(), 2);
         Due.is("HELP is as at first", x.lawOf(0), 3);
@@ -183,9 +188,20 @@ final class TextTest {
         Due.is("the SHEET is there", x.item(1, 0, 2), 0);
         Due.is("the SHELF holds its number", x.taken(2, 0), 1);
         Due.is("THE TRACE is there", x.trace(0), 51);
-        Due.is("z stays", x.seed(1), 77);
+        Due.is("z stays", x.seed(1), 78);
         Due.is("what is kept stays", x.again(), 2);
         Due.is("as it was kept", x.of(0, 0), 3);
+    }
+
+    private static void nothingOfTheFormerOnes() {
+        TonightCovers x = Due.told("page of 0 ill 5;page of 1 ill 6;", 2);
+        x.teach(1, 4, 44);
+        x.prove(1, 1);
+        Due.feed(x, "player of 0;");
+        Due.is("company()", x.company(), 1);
+        Due.is("player(0, 1)", x.player(0, 1), 1);
+        Due.is("ILL of the new one", x.of(1, 2), 0);
+        Due.is("KNOWS of the new one", x.knows(1, 4), 0);
     }
 
     private static void refusedChangesNothing() {

@@ -13,6 +13,7 @@ final class TrialsTest {
         learnerFor();
         fewestFor();
         fits();
+        fitsOfSeveral();
         fitsOfSorts();
         nothingChanges();
         Due.end();
@@ -38,6 +39,7 @@ final class TrialsTest {
         Due.is("knew(0, 0, -1)", x.knew(0, 0, -1), TonightCovers.BAD);
         Due.is("earned(0)", x.earned(0), 0);
         Due.is("earned(3)", x.earned(3), 3 * (60 + 62 + 64 + 60));
+        Due.is("earned(60)", x.earned(60), 3 * (99 * 120 - 39 * 20 + 19 * 20 - 99 * 2 - 39 * 20 + 19 * 20));
         Due.is("earned(61)", x.earned(61), TonightCovers.BAD);
         Due.is("earned(-1)", x.earned(-1), TonightCovers.BAD);
         x.nights(2);
@@ -53,6 +55,11 @@ final class TrialsTest {
         Due.is("plays another not by then", x.plays(0, 1), TonightCovers.NONE);
         x.set(2, 37);
         Due.is("plays not by then", x.plays(0, 0), TonightCovers.NONE);
+        x.teach(0, 0, 1);
+        Due.is("plays behind 61 is not by then", x.plays(0, 0), TonightCovers.NONE);
+        x.set(2, 36);
+        Due.is("plays behind 59", x.plays(0, 0), 59);
+        x.teach(0, 0, 0);
         x.set(2, 10);
         x.sick(0, 9);
         // nothing FORGOTTEN while ILL; then GOOD as 10 behind 8 more
@@ -95,6 +102,13 @@ final class TrialsTest {
         // the second one is there as good: its illness is no loss, and the first one's neither
         TonightCovers y = Due.told("player of 0; player of 0; player of 4 knows 11;", 3);
         Due.is("one without a second", y.worst(), 2);
+        TonightCovers z = new TonightCovers();
+        for (int i = 0; i < 8; i++) {
+            z.player(0, i);
+        }
+        Due.is("of all eight the least", z.worst(), 0);
+        z.weigh(7, 4);
+        Due.is("of all eight the last", z.worst(), 7);
     }
 
     private static void kindFor() {
@@ -156,6 +170,14 @@ final class TrialsTest {
         Due.is("both are ill", y.learnerFor(3, 1), TonightCovers.NONE);
         Due.is("the first one is well for the second NIGHT", y.learnerFor(3, 2), 0);
         Due.is("nobody is there", new TonightCovers().learnerFor(0, 30), TonightCovers.NONE);
+        TonightCovers z = new TonightCovers();
+        for (int i = 0; i < 8; i++) {
+            z.player(i == 7 ? 0 : 5, i);
+            z.teach(i, i, 99);
+        }
+        Due.is("of all eight, all at their best", z.learnerFor(3, 1), TonightCovers.NONE);
+        z.teach(7, 7, 40);
+        Due.is("of all eight the last", z.learnerFor(7, 1), 7);
     }
 
     private static void fewestFor() {
@@ -195,6 +217,10 @@ final class TrialsTest {
         x.put(0, 1, 297);
         Due.is("held to 99 on the second NIGHT", x.fits(0, 0, 0), 3);
         Due.is("from 97 on", x.fits(0, 0, 1), 97);
+        x.put(0, 0, 297);
+        Due.is("99 on the first NIGHT", x.fits(0, 0, 0), 1);
+        Due.is("99", x.fits(0, 0, 1), 99);
+        x.put(0, 0, -1);
         x.put(0, 1, -1);
         Due.is("any", x.fits(0, 0, 0), 100);
         Due.is("any from 0 on", x.fits(0, 0, 1), 0);
@@ -205,6 +231,16 @@ final class TrialsTest {
         Due.is("fits(0, 0, 2)", x.fits(0, 0, 2), TonightCovers.BAD);
         Due.is("fits(0, 0, -1)", x.fits(0, 0, -1), TonightCovers.BAD);
         Due.is("BAD is named before -11", x.fits(1, 0, 2), TonightCovers.BAD);
+    }
+
+    // each number is tried from how all is now: one is ill for a NIGHT, another LEARNS
+    private static void fitsOfSeveral() {
+        TonightCovers x = Due.told("player of 0 ill 1;player of 1;", 2);
+        x.sheet(3, 3, 2);
+        x.put(3, 0, 180);
+        x.put(3, 1, 186 + 210);
+        Due.is("just one", x.fits(3, 0, 0), 1);
+        Due.is("70", x.fits(3, 0, 1), 70);
     }
 
     private static void fitsOfSorts() {
