@@ -1,4 +1,4 @@
-/** Who plays what tonight, and what comes of it. The promises that the comments name are those of DOC.md. */
+/** Who plays what tonight, and what comes of it. Words in capitals in the comments are those of DOC.md. */
 public final class TonightCovers {
     public static final int BAD = -1, FULL = -2, NONE = -3;
 
