@@ -162,6 +162,12 @@ final class EdgesOfLawsTest {
 
     // "its OWN 60, others 0, as it comes": also where another one was before
     private static void asOneComes() {
+        for (int own = 0; own < 8; own++) {
+            asOneComesWith(own);
+        }
+    }
+
+    private static void asOneComesWith(int own) {
         TonightCovers x = new TonightCovers();
         x.player(4, 2);
         for (int part = 0; part < 8; part++) {
@@ -169,9 +175,9 @@ final class EdgesOfLawsTest {
         }
         x.sick(0, 9);
         Due.is("company() of nothing", x.company(), 0);
-        Due.is("player(1, 7)", x.player(1, 7), 0);
+        Due.is("player(1, " + own + ")", x.player(1, own), 0);
         for (int part = 0; part < 8; part++) {
-            Due.is("KNOWS of " + part, x.knows(0, part), part == 7 ? 60 : 0);
+            Due.is("KNOWS of " + part, x.knows(0, part), part == own ? 60 : 0);
         }
         Due.is("well", x.of(0, 2), 0);
         Due.is("KIND", x.of(0, 0), 1);

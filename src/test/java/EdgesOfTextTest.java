@@ -48,7 +48,8 @@ final class EdgesOfTextTest {
         for (int n = 1; n <= 8; n++) {
             TonightCovers x = new TonightCovers();
             Due.feed(x, " ".repeat(200 - n));
-            Due.is("one more than there is room for", x.feed(-1L, n + 1), n < 8 ? TonightCovers.FULL : TonightCovers.BAD);
+            int refusal = n < 8 ? TonightCovers.FULL : TonightCovers.BAD;
+            Due.is("one more than there is room for", x.feed(-1L, n + 1), refusal);
             Due.is("nothing came of it", x.many(5), 200 - n);
             Due.is("as many as there is room for", x.feed(0x2020202020202020L, n), 200);
             Due.is("one more", x.feed(0x20, 1), TonightCovers.FULL);
@@ -272,7 +273,8 @@ final class EdgesOfTextTest {
     // "or the end (how many bytes there are), if more must come": a player's text, ended behind each of its bytes
     private static void endOfAPlayer() {
         String text = "player of 7 knows 99 ill 9;";
-        int[] faults = {-1, 0, 0, 0, 0, 0, 6, 7, 7, 9, 10, 11, 12, 12, 12, 12, 12, 17, 18, 19, 20, 21, 21, 21, 24, 25, 26, -1};
+        int[] faults = {-1, 0, 0, 0, 0, 0, 6, 7, 7, 9, 10, 11, 12, 12, 12, 12, 12, 17, 18, 19, 20, 21, 21, 21, 24, 25, 26,
+            -1};
         for (int end = 0; end < faults.length; end++) {
             answers(text.substring(0, end), faults[end] < 0 ? end / text.length() : -100 - faults[end]);
             if (faults[end] == end) {

@@ -216,7 +216,7 @@ final class EdgesOfThingsTest {
         }
     }
 
-    // "the first 30 are kept": the longest there is has 10 or less, and is whole
+    // "the first 30 are kept": the longest there is has 11, and is whole
     private static void traceOfTheMost() {
         TonightCovers x = Due.told("player of 0;prompter of 5;", 2);
         x.shelf(3, 0, 1);
@@ -365,7 +365,8 @@ final class EdgesOfThingsTest {
     private static void mindsHeld() {
         TonightCovers x = Due.told("page of 3;", 1);
         x.sheet(0, 0, 1);
-        int[][] want = {{-1, 0}, {0, 0}, {1, 1}, {98, 98}, {99, 99}, {100, 99}, {127, 99}, {128, 0}, {-128, 0}, {255, 0}};
+        int[][] want = {{-1, 0}, {0, 0}, {1, 1}, {98, 98}, {99, 99}, {100, 99}, {127, 99}, {128, 0}, {-128, 0},
+            {255, 0}};
         for (int[] pair : want) {
             x.put(0, 0, pair[0]);
             x.teach(0, 3, 50);

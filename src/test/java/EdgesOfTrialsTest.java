@@ -212,6 +212,10 @@ final class EdgesOfTrialsTest {
         Due.is("all well on the second NIGHT, two do it twice", x.learnerFor(5, 2), 1);
         x.mind(2, 5);
         Due.is("the last one better", x.learnerFor(5, 1), 2);
+        TonightCovers y = players(5);
+        y.sick(0, 1);
+        Due.is("ILL for the only NIGHT", y.learnerFor(5, 1), TonightCovers.NONE);
+        Due.is("ILL for the first one of two", y.learnerFor(5, 2), 0);
     }
 
     // "FEWEST FOR v: the set of fewest": also of none
@@ -407,7 +411,8 @@ final class EdgesOfTrialsTest {
 
     // "ILL for as many NIGHTS as a third draw leaves by 10, or as it was, whichever is more"
     private static void asItWas() {
-        int[][] want = {{0, 0, 0}, {1, 0, 0}, {9, 0, 8}, {0, 1, 0}, {0, 5, 4}, {3, 4, 3}, {4, 4, 3}, {5, 4, 4}, {9, 9, 8}};
+        int[][] want = {{0, 0, 0}, {1, 0, 0}, {9, 0, 8}, {0, 1, 0}, {0, 5, 4}, {3, 4, 3}, {4, 4, 3}, {5, 4, 4},
+            {9, 9, 8}};
         for (int[] row : want) {
             TonightCovers x = players(0);
             x.set(3, 50);
